@@ -31,7 +31,9 @@ public final class LanguageTest {
     public static void main(String[] args) throws Exception {
         theFaceIsTheDocuments();
         nothingElseIsVisible();
-        bannedWordsAreNotInTheSource();
+        String code = code();
+        bannedWordsAreNotIn(code);
+        objectsAreMadeWithANewObjectAlone(code);
         Due.end();
     }
 
@@ -92,15 +94,30 @@ public final class LanguageTest {
         Due.isTrue(its + " has some twenty fields at most", ownFields <= 20);
     }
 
-    private static void bannedWordsAreNotInTheSource() throws Exception {
+    /** The source without its comments. */
+    private static String code() throws Exception {
         byte[] bytes = Files.readAllBytes(SOURCE);
         for (byte sign : bytes) {
             if (sign <= 0) {
                 Due.isTrue("all signs of the source are 1 to 127", false);
             }
         }
-        String code = new String(bytes, StandardCharsets.ISO_8859_1)
+        return new String(bytes, StandardCharsets.ISO_8859_1)
                 .replaceAll("(?s)/\\*.*?\\*/", "").replaceAll("//[^\n]*", "");
+    }
+
+    /** All calls of a run share one room, so no call may make an object: fields and constructors do. */
+    private static void objectsAreMadeWithANewObjectAlone(String code) {
+        for (String line : code.split("\n")) {
+            if (Pattern.compile("\\b(new|copyOf|copyOfRange|clone|substring|toCharArray)\\b").matcher(line).find()) {
+                boolean isOfAField = line.matches("\\s+private final [\\w\\[\\]]+ \\w+ = new .*");
+                boolean isOfAConstructor = line.matches("\\s+(sheets\\[i\\]|this\\.cells) = new .*");
+                Due.isTrue("made with a new object alone: " + line.trim(), isOfAField || isOfAConstructor);
+            }
+        }
+    }
+
+    private static void bannedWordsAreNotIn(String code) {
         String[] banned = {
             "\\bthrow\\b", "\\bthrows\\b", "\\btry\\b", "\\bcatch\\b", "\\bsynchronized\\b", "\\bassert\\b",
             "\\bimport\\b", "\\bpackage\\b", "\\bprotected\\b", "->", "::", "@", "Exact\\b", "\\bSystem\\.(?!arraycopy)",

@@ -1263,31 +1263,29 @@ public final class NeedleLine {
         private static final int MOST_DEEP = 40;
 
         private final Table trace = new Table(1, MOST_BODIES);
-        private final Table begun = new Table(1, MOST_BODIES);
         private int kind = 0;
         private int k = 0;
         private int m = 0;
         private boolean isParted = false;
 
-        /** A VOICE that is PARTED answers an ERROR, so it leaves THE TRACE as it was. */
+        /** THE TRACE is of the latest VOICE, of one that is PARTED, too: it has what began by then. */
         int speak(Slips slips, int slip, int voice, int x) {
             kind = slips.at(SLIP_KIND, slip);
             k = slip;
             m = slips.at(SLIP_M, slip);
             isParted = false;
-            begun.use(0);
-            int answer = sound(voice, kind, x, 0);
-            if (!isParted) {
-                trace.take(begun);
-            }
-            return answer;
+            trace.use(0);
+            return sound(voice, kind, x, 0);
         }
 
         boolean isParted() {
             return isParted;
         }
 
-        /** The BODY of a VOICE that a KIND has, or the next KIND above that has one. */
+        /**
+         * The BODY of a VOICE that a KIND has, or the next KIND above that has one. Once a BODY is
+         * PARTED none begins any more, for PARTED is all that is answered then.
+         */
         private int sound(int voice, int from, int x, int deep) {
             int its = from;
             for (int step = 0; step < KINDS && bodyOf(its, voice) == 0; step++) {
@@ -1296,8 +1294,8 @@ public final class NeedleLine {
             if (isParted || deep >= MOST_DEEP) {
                 return 0;
             }
-            if (!begun.isFull()) {
-                begun.add(bodyOf(its, voice));
+            if (!trace.isFull()) {
+                trace.add(bodyOf(its, voice));
             }
             return workedOut(bodyOf(its, voice), Slips.above(its), x, deep + 1);
         }

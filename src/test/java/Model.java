@@ -780,10 +780,9 @@ final class Model {
                 ask(in(v[0], 0, now.slips.size() - 1) && in(v[1], 0, 3), BEYOND);
                 Slip slip = now.slips.get(v[0]);
                 slip.said = new ArrayList<>();
-                int answer = v[1] == 0 ? slip.sights(v[2]) : v[1] == 1 ? slip.chains(v[2])
-                    : v[1] == 2 ? slip.notes(v[2]) : slip.mends(v[2]);
                 trace = slip.said;
-                return answer;
+                return v[1] == 0 ? slip.sights(v[2]) : v[1] == 1 ? slip.chains(v[2])
+                    : v[1] == 2 ? slip.notes(v[2]) : slip.mends(v[2]);
             }
             case "body":
                 ask(in(v[0], 0, Math.min(trace.size(), 30) - 1), NONE);

@@ -9,7 +9,8 @@ public final class VoicesTest {
         promise33IntsWrap();
         promise33Errors();
         promise34Bodies();
-        promise34ErrorsLeaveTheTrace();
+        promise34BodiesOfParted();
+        promise34BeyondLeavesTheTrace();
         Due.end();
     }
 
@@ -74,12 +75,16 @@ public final class VoicesTest {
     private static void bodies(int kind, int voice, int... due) {
         NeedleLine x = with(kind, 1, 4);
         x.voice(1, voice, 9);
-        Due.due("KIND " + kind + ", VOICE " + voice + ": count(6)", x.count(6), due.length);
+        trace("KIND " + kind + ", VOICE " + voice, x, due);
+    }
+
+    private static void trace(String of, NeedleLine x, int... due) {
+        Due.due(of + ": count(6)", x.count(6), due.length);
         for (int i = 0; i < due.length; i++) {
-            Due.due("KIND " + kind + ", VOICE " + voice + ": body(" + i + ")", x.body(i), due[i]);
+            Due.due(of + ": body(" + i + ")", x.body(i), due[i]);
         }
-        Due.due("one more body", x.body(due.length), NONE);
-        Due.due("body(-1)", x.body(-1), NONE);
+        Due.due(of + ": one more body", x.body(due.length), NONE);
+        Due.due(of + ": body(-1)", x.body(-1), NONE);
     }
 
     private static void promise34Bodies() {
@@ -113,18 +118,40 @@ public final class VoicesTest {
         bodies(6, 3, 13);
     }
 
-    private static void promise34ErrorsLeaveTheTrace() {
+    /** The BODIES that began, up to the one that is PARTED: no other begins then. */
+    private static void parted(int kind, int... due) {
+        NeedleLine x = with(kind, 2, 2);
+        x.voice(2, 1, 0);
+        Due.due("KIND " + kind + ": voice(2, 3, 0)", x.voice(2, 3, 0), PARTED);
+        trace("KIND " + kind + ", PARTED", x, due);
+    }
+
+    private static void promise34BodiesOfParted() {
+        parted(0, 13);
+        parted(1, 21, 13);
+        parted(2, 13);
+        parted(3, 13);
+        parted(4, 51, 21, 13);
+        parted(5, 13);
+        parted(6, 13);
+        NeedleLine x = with(4, 2, 2);
+        x.voice(2, 3, 0);
+        x.voice(2, 0, 0);
+        trace("the VOICE after PARTED", x, 50, 20, 10);
+        Due.due("told(6)", x.told(6), 1);
+    }
+
+    private static void promise34BeyondLeavesTheTrace() {
         NeedleLine x = with(4, 2, 2);
         Due.due("body(0) ahead of all", x.body(0), NONE);
         x.voice(2, 1, 0);
-        x.voice(2, 3, 0);
-        Due.due("count(6) after PARTED", x.count(6), 4);
-        Due.due("body(0) after PARTED", x.body(0), 11);
         x.voice(3, 0, 0);
-        Due.due("count(6) after BEYOND", x.count(6), 4);
+        x.voice(2, 4, 0);
+        trace("after BEYOND", x, 11, 50, 20, 10);
+        x.voice(2, 3, 0);
+        x.voice(-1, 3, 0);
+        trace("BEYOND after PARTED", x, 51, 21, 13);
         x.voice(0, 0, 0);
-        Due.due("count(6) of the latest", x.count(6), 1);
-        Due.due("body(1) of the latest", x.body(1), NONE);
-        Due.due("told(2)", x.told(2), 2);
+        trace("of the latest", x, 10);
     }
 }

@@ -5,10 +5,12 @@ import java.util.Comparator;
 import java.util.List;
 import java.util.Random;
 
-/** Runs of 512 calls drawn with fixed seeds, each answer compared with the Model's. */
+/** Runs of up to 512 calls drawn with fixed seeds, each answer compared with the Model's. */
 public final class RandomRunsTest {
     private static final int RUNS = 400;
     private static final int CALLS = 512;
+    /** A TEXT of 60 bytes is fed by eight calls and told by two; no other turn takes as many. */
+    private static final int MOST_CALLS_OF_A_TURN = 10;
     private static final int[] EXTREMES = {
         Integer.MIN_VALUE, Integer.MIN_VALUE + 1, -1000000001, -100000, -10000, -100, -1, 0, 1, 24, 25, 60, 99, 100,
         128, 255, 256, 9999, 10000, 32767, 32768, 99999, 100000, Integer.MAX_VALUE - 1, Integer.MAX_VALUE
@@ -49,7 +51,7 @@ public final class RandomRunsTest {
 
     private void go(List<Method> methods, int seed) throws Exception {
         boolean isAlike = true;
-        while (isAlike && run.size() < CALLS) {
+        while (isAlike && run.size() <= CALLS - MOST_CALLS_OF_A_TURN) {
             isWild = random.nextInt(seed % 10 == 0 ? 2 : 25) == 0;
             Method method = methods.get(random.nextInt(methods.size()));
             if (run.size() < 40) {
@@ -59,6 +61,9 @@ public final class RandomRunsTest {
                 isAlike = feedText(called(methods, "feed"), called(methods, "text"));
             } else if (!UNDOERS.contains(method.getName()) || random.nextInt(8) == 0) {
                 isAlike = compare(method, arguments(method));
+            }
+            if (isAlike && method.getName().equals("voice")) {
+                isAlike = compareTrace(called(methods, "count"), called(methods, "body"));
             }
         }
         if (!isAlike) {
@@ -86,6 +91,11 @@ public final class RandomRunsTest {
         long want = model.call(method.getName(), args);
         Due.due(call, got, want);
         return got == want;
+    }
+
+    /** THE TRACE right behind a VOICE: how many BODIES, and one of the first or one too many. */
+    private boolean compareTrace(Method count, Method body) throws Exception {
+        return compare(count, of(6)) && compare(body, of(from(0, line.count(6))));
     }
 
     private void report(int seed) {

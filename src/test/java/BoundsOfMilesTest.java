@@ -1,3 +1,5 @@
+import java.util.function.ToLongFunction;
+
 /** The sentences on THE LINE, its MILES and SLIPS (Terms 1, promises 1 to 10), each with its boundary cases. */
 public final class BoundsOfMilesTest {
     private static final long BEYOND = -1000000001;
@@ -29,6 +31,7 @@ public final class BoundsOfMilesTest {
         sideOfTheNextPost();
         alongOfTheNextPost();
         allIsWorkedOutAnew();
+        allIsWorkedOutAnewForEachThatAsks();
         missOfTheLastPost();
         promise1();
         promise2WhatItHad();
@@ -406,6 +409,49 @@ public final class BoundsOfMilesTest {
         x.mile(0, 0, 5);
         x.restore();
         Due.due("as in the IMAGE", x.post(1, 0), 7);
+    }
+
+    private static NeedleLine changed() {
+        NeedleLine x = Rich.open();
+        x.mile(0, 0, 0);
+        x.turn(0, 0);
+        x.turn(5, 0);
+        x.stone(250, 7000);
+        return x;
+    }
+
+    /** Right behind a change an act answers as it does when another that asks for POSTS stands between. */
+    private static void anew(String call, ToLongFunction<NeedleLine> asked) {
+        NeedleLine other = changed();
+        other.post(0, 0);
+        long due = asked.applyAsLong(other);
+        Due.isTrue(call + " is another one behind the change", due != asked.applyAsLong(Rich.open()));
+        Due.due(call + " right behind the change", asked.applyAsLong(changed()), due);
+    }
+
+    private static void allIsWorkedOutAnewForEachThatAsks() {
+        Due.sentence("All is worked out anew as things change.");
+        anew("mileIs(4, 6)", x -> x.mileIs(4, 6));
+        anew("post(2, 0)", x -> x.post(2, 0));
+        anew("post(2, 2)", x -> x.post(2, 2));
+        anew("post(2, 3)", x -> x.post(2, 3));
+        anew("post(2, 4)", x -> x.post(2, 4));
+        anew("miss(0)", x -> x.miss(0));
+        anew("miss(1)", x -> x.miss(1));
+        anew("miss(2)", x -> x.miss(2));
+        anew("wronged(16)", x -> x.wronged(16));
+        anew("which(1)", x -> x.which(1));
+        anew("checks(1, 1)", x -> x.checks(1, 1));
+        anew("checks(2, 1)", x -> x.checks(2, 1));
+        anew("leaning()", x -> x.leaning());
+        anew("straight(0)", x -> x.straight(0));
+        anew("offIt()", x -> x.offIt());
+        anew("nearest(70, 868)", x -> x.nearest(70, 868));
+        anew("crosses()", x -> x.crosses());
+        anew("treeIs(2, 4)", x -> x.treeIs(2, 4));
+        anew("waver(23, 1, 0)", x -> x.waver(23, 1, 0));
+        anew("judge(0, 0)", x -> x.judge(0, 0));
+        anew("check()", x -> x.check());
     }
 
     private static void missOfTheLastPost() {

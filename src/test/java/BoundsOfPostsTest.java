@@ -17,6 +17,7 @@ public final class BoundsOfPostsTest {
         checksOfSeveralTheLeastAsBits();
         checksOfSeveralPairsTheLeastAsBits();
         checksWithoutSign();
+        checksWithAllElseOfTheMiles();
         sumOfHours();
         straightInLowestTerms();
         straightOfTheLongestLine();
@@ -266,6 +267,24 @@ public final class BoundsOfPostsTest {
         x.stone(9999, 0);
         Due.due("far to the right: MILE 0", x.checks(1, 0), 1);
         Due.due("far to the right", x.checks(1, 1), 9981);
+    }
+
+    private static void checksWithAllElseOfTheMiles() {
+        Due.sentence("makes SIDE of the last POST, less that of THE STONE, without sign, least");
+        NeedleLine x = new NeedleLine();
+        x.miles(3);
+        x.slip(4, 2, 10);
+        x.stone(100, 0);
+        Due.due("LEANS alone: 60", x.checks(1, 1), 40);
+        x.mile(1, 0, 7);
+        Due.due("and IRON", x.checks(1, 1), 33);
+        x.mile(2, 2, 1);
+        x.slip(5, 2, -9);
+        Due.due("and what PUSHES", x.checks(1, 1), 42);
+        x.waver(0, 1, 99);
+        Due.due("and a WAVER", x.checks(1, 1), Math.abs(58 + x.mileIs(0, 4) - 100));
+        x.turn(1, 0);
+        Due.due("without what is off", x.checks(1, 1), Math.abs(67 + x.mileIs(0, 4) - 100));
     }
 
     private static void sumOfHours() {

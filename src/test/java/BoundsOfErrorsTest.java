@@ -13,6 +13,7 @@ public final class BoundsOfErrorsTest {
     public static void main(String[] args) {
         usedFor512Calls();
         usedFor512CallsThatAreRefused();
+        laterCallsAnswer();
         numbersOfTheErrors();
         numbersOfTheErrorsInLongs();
         answersThatAreAnyNumberAreNoErrors();
@@ -47,6 +48,23 @@ public final class BoundsOfErrorsTest {
         Due.due("told(1), the 512th call", x.told(1), 511);
     }
 
+    /** What they answer is free, but ../shared/LANGUAGE.md has no call that fails. */
+    private static void laterCallsAnswer() {
+        Due.sentence("what later calls answer is free.");
+        NeedleLine x = Rich.open();
+        int calls = 0;
+        for (int time = 0; time < 600; time++) {
+            x.miles(1 + time % 25);
+            x.slip(time % 8, 2323, time % 100);
+            x.voice(time % 9, time % 5, time);
+            x.waver(time % 25, 24, 99);
+            x.text(time % 3);
+            x.restore();
+            calls += 6;
+        }
+        Due.due("calls that have answered", calls, 3600);
+    }
+
     private static NeedleLine withSlip(int kind, int m) {
         NeedleLine x = new NeedleLine();
         x.slip(kind, 0, m);
@@ -54,8 +72,8 @@ public final class BoundsOfErrorsTest {
     }
 
     private static void numbersOfTheErrors() {
-        Due.sentence("LOW is -1000000000; LOW - 1 BEYOND, LOW - 2 NONE, LOW - 3 STATE, LOW - 4 FULL, LOW - 5 KIND, "
-                + "LOW - 6 PARTED");
+        Due.sentence("ERRORS are answers below -1000000000: LOW is -1000000000; LOW - 1 BEYOND, LOW - 2 NONE, LOW - 3 STATE, "
+                + "LOW - 4 FULL, LOW - 5 KIND, LOW - 6 PARTED");
         Due.due("BEYOND", new NeedleLine().miles(0), -1000000001);
         Due.due("NONE", new NeedleLine().restore(), -1000000002);
         Due.due("STATE", new NeedleLine().sheet(0, 8, -1), -1000000003);

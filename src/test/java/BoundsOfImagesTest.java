@@ -299,6 +299,14 @@ public final class BoundsOfImagesTest {
         return x;
     }
 
+    /** THE LINE of four MILES, with SIDES 0, 0, 0, 7: a POST at 0 is one that lacks, too, if no number is its. */
+    private static NeedleLine ofFour() {
+        NeedleLine x = new NeedleLine();
+        x.miles(4);
+        x.mile(3, 0, 7);
+        return x;
+    }
+
     private static void check(NeedleLine x, int due, int... numbers) {
         for (int number : numbers) {
             x.tell(number);
@@ -329,6 +337,12 @@ public final class BoundsOfImagesTest {
         check(ofThree(), 3, 5, 5);
         check(ofThree(), 1, 0);
         check(ofThree(), 2, 5, 0);
+        check(ofFour(), 1);
+        check(ofFour(), 3, 0, 0);
+        NeedleLine x = ofFour();
+        check(x, 0, 0, 0, 0, 7);
+        check(x, 4, 0, 0, 0);
+        check(x, 2, 0);
     }
 
     private static void promise43OneTooMany() {
@@ -337,6 +351,7 @@ public final class BoundsOfImagesTest {
         check(ofThree(), 4, 5, 5, -10, 0, 0);
         check(ofThree(), 3, 5, 5, 0, 0);
         check(ofThree(), 1, 0, 5, 5, -10);
+        check(ofFour(), 5, 0, 0, 0, 7, 0, 7);
     }
 
     private static void promise43NoneWaitThen() {

@@ -170,6 +170,9 @@ public final class BoundsOfSheetsTest {
         even(with(8, 9, 2, 4, 6), 1, 0);
         even(with(8, 9, 2, 4, 6, 8), 2, 0);
         even(with(8, 9, 2, 4, 6, 8, 10), 3, 1);
+        // Nothing stands behind the last number, so no STEP leads from it to 0.
+        even(with(8, 4, 3, 2, 1), 2, 0);
+        even(with(8, 0, 0, 0), 2, 0);
     }
 
     private static void madeUpOneRightBehindTheOther() {

@@ -86,6 +86,8 @@ public final class BoundsOfTextsTest {
         Due.due("text(1) of 60 bytes", x.text(1), 1);
         Due.due("all of them count", x.mileIs(0, 5), 29 * 7 + 70);
         Due.due("one comes again", x.feed('1', 1), 1);
+        value("!7" + "+7".repeat(29), 29 * 7);
+        value("!!!!!7" + "+7".repeat(27), 27 * 7);
     }
 
     private static void tapeOfOneByte() {
@@ -579,6 +581,9 @@ public final class BoundsOfTextsTest {
         Due.due("HOURS by it", x.mileIs(0, 5), 7);
         Due.due("a long one in place of that", Texts.told(x, 1, "2" + "+2".repeat(29)), 1);
         Due.due("HOURS by that", x.mileIs(0, 5), 60);
+        Due.due("one that ends with a sign", Texts.told(x, 1, "!!!!!7"), 1);
+        Due.due("one of a NUMBER alone in its place", Texts.told(x, 1, "7"), 1);
+        Due.due("HOURS by it, and by no sign", x.mileIs(0, 5), 7);
     }
 
     private static void promise12TheTapeStays() {

@@ -79,6 +79,9 @@ public final class LanguageTest {
         Due.isTrue("at most twelve classes", inside.length + 1 <= 12);
         for (Class<?> its : inside) {
             Due.isTrue(its + " is static", Modifier.isStatic(its.getModifiers()));
+            for (Method method : its.getDeclaredMethods()) {
+                Due.isTrue(method + " does not bear a public name", !faceNames.contains(method.getName()));
+            }
             staticFieldsAreFinal(its);
         }
         staticFieldsAreFinal(NeedleLine.class);
